@@ -339,7 +339,7 @@ public final class WiringHouse {
         }
 
         int add(long word) {
-            if (isFull()) {
+            if (size >= words.length) {
                 return NONE;
             }
             words[size] = word;
@@ -347,7 +347,7 @@ public final class WiringHouse {
         }
     }
 
-    /** The TAPE, and the TOKEN of it that is being looked at. */
+    /** The TAPE, its TOKENS once it is read, and the one that is being looked at. */
     private static final class Tape {
         static final int END = 0;
         static final int BAD = 1;
@@ -387,8 +387,13 @@ public final class WiringHouse {
 
         private final byte[] signs = new byte[TAPE_SIGNS];
         private final long[] keywords = new long[KEYWORDS];
+        private final int[] kinds = new int[TAPE_SIGNS + 1];
+        private final int[] starts = new int[TAPE_SIGNS + 1];
+        private final long[] values = new long[TAPE_SIGNS + 1];
         private int length;
         private int position;
+        private int tokens;
+        private int looking;
         private int kind;
         private int start;
         private long value;
@@ -421,53 +426,73 @@ public final class WiringHouse {
 
         void begin() {
             position = 0;
+            tokens = 0;
+            for (int i = 0; i < TAPE_SIGNS && position < length; i++) {
+                if (signs[position] == 32 || signs[position] == 10) {
+                    position++;
+                } else {
+                    cut();
+                }
+            }
+            kinds[tokens] = END;
+            starts[tokens] = length;
+            values[tokens] = 0;
+            looking = 0;
             next();
         }
 
         void next() {
-            while (position < length && (signs[position] == 32 || signs[position] == 10)) {
-                position++;
+            kind = kinds[looking];
+            start = starts[looking];
+            value = values[looking];
+            if (looking < tokens) {
+                looking++;
             }
-            start = position;
-            value = 0;
-            if (position >= length) {
-                kind = END;
-                return;
-            }
+        }
+
+        /** The TOKEN that begins here; it takes one sign at least, so there are no more than signs. */
+        private void cut() {
             int sign = signs[position];
+            starts[tokens] = position;
+            values[tokens] = 0;
             if (isDigit(sign)) {
-                readNumber();
+                cutNumber();
             } else if (isLetter(sign)) {
-                readWord();
+                cutWord();
             } else {
-                kind = SIGNS.indexOf((char) sign) >= 0 ? sign : BAD;
+                kinds[tokens] = SIGNS.indexOf((char) sign) >= 0 ? sign : BAD;
                 position++;
             }
+            tokens++;
         }
 
-        private void readNumber() {
+        private void cutNumber() {
+            int digits = 0;
+            long number = 0;
             while (position < length && isDigit(signs[position])) {
-                if (position - start < NUMBER_LENGTH) {
-                    value = value * 10 + signs[position] - '0';
-                }
+                number = digits < NUMBER_LENGTH ? number * 10 + signs[position] - '0' : 0;
+                digits++;
                 position++;
             }
-            kind = position - start > NUMBER_LENGTH ? BAD : NUMBER;
+            kinds[tokens] = digits > NUMBER_LENGTH ? BAD : NUMBER;
+            values[tokens] = number;
         }
 
-        private void readWord() {
+        private void cutWord() {
+            int letters = 0;
+            long word = 0;
             while (position < length && (isLetter(signs[position]) || isDigit(signs[position]))) {
-                if (position - start < WORD_LENGTH) {
-                    value = value * 37 + codeOf(signs[position]);
-                }
+                word = letters < WORD_LENGTH ? word * 37 + codeOf(signs[position]) : 0;
+                letters++;
                 position++;
             }
-            kind = position - start > WORD_LENGTH ? BAD : kindOfWord();
+            kinds[tokens] = letters > WORD_LENGTH ? BAD : kindOf(word);
+            values[tokens] = word;
         }
 
-        private int kindOfWord() {
+        private int kindOf(long word) {
             for (int k = 0; k < KEYWORDS; k++) {
-                if (keywords[k] == value) {
+                if (keywords[k] == word) {
                     return FIRST_KEYWORD + k;
                 }
             }
@@ -1203,6 +1228,8 @@ public final class WiringHouse {
 
     /** CHECK, and what the latest one has found. */
     private static final class Checker {
+        private static final int LEFT = -2;
+
         private final int[] kinds = new int[FAULTS_TOLD];
         private final int[] whose = new int[FAULTS_TOLD];
         private final int[] details = new int[FAULTS_TOLD];
@@ -1210,7 +1237,6 @@ public final class WiringHouse {
         private final int[] path = new int[COMPONENTS];
         // Where on the path a component is; one that was left has LEFT, one not yet met NONE.
         private final int[] onPath = new int[COMPONENTS];
-        private static final int LEFT = -2;
         private Book book;
         private int faults;
 
@@ -1364,8 +1390,9 @@ public final class WiringHouse {
 
         void clear() {
             Arrays.fill(present, NONE);
-            Arrays.fill(isOpened, false);
-            Arrays.fill(spoils, 0);
+            for (int s = 0; s < SCOPES; s++) {
+                shut(s);
+            }
             isOpened[0] = true;
             scopeCount = 1;
             objectCount = 0;
@@ -1659,8 +1686,9 @@ public final class WiringHouse {
         private static final int RESCUING = 3;
         private static final int BEFORES = 4;
         private static final int AFTERS = 5;
-        private static final int GETTING = 6;
-        private static final int SUMMING = 7;
+        private static final int ASKING = 6;
+        private static final int GETTING = 7;
+        private static final int SUMMING = 8;
 
         private static final int FRAMES = 400;
         private static final int VALUES = 2048;
@@ -2061,6 +2089,10 @@ public final class WiringHouse {
         // ---- E's
 
         private void goOnWorking(Frame frame) {
+            if (frame.phase == ASKING) {
+                callNeed(frame);
+                return;
+            }
             if (frame.phase != START) {
                 if (signal != ANSWERED) {
                     endWork(frame);
@@ -2142,8 +2174,10 @@ public final class WiringHouse {
                     endWork(frame);
                     return false;
                 default:
+                    frame.position = with / METHODS;
+                    frame.target = with % METHODS;
                     frame.given = pull();
-                    callNeed(frame, with / METHODS, with % METHODS);
+                    frame.phase = ASKING;
                     return false;
             }
         }
@@ -2168,38 +2202,31 @@ public final class WiringHouse {
             return top > 0 ? values[--top] : 0;
         }
 
-        private void callNeed(Frame frame, int need, int method) {
-            Component caller = book.components[frame.component];
-            frame.target = method;
-            frame.item = 0;
-            frame.sum = 0;
-            frame.position = need;
-            int kind = caller.needKinds[need];
+        private void callNeed(Frame frame) {
+            int kind = book.components[frame.component].needKinds[frame.position];
+            // A late need that is not NEW is never joined, and is looked for at each use.
+            int first = stock.joinedTo(frame.object, frame.position, 0);
             if (kind == ALL) {
                 frame.phase = SUMMING;
+                frame.item = 0;
+                frame.sum = 0;
                 answerWith(0);
-            } else if (kind == LATE) {
-                callLate(frame, need);
+            } else if (kind == LATE && first == NONE) {
+                frame.phase = GETTING;
+                getLate(frame);
             } else {
                 frame.phase = WAITING;
-                pushCall(stock.joinedTo(frame.object, need, 0), frame.scope, method, frame.given, frame.level + 1);
+                pushCall(first, frame.scope, frame.target, frame.given, frame.level + 1);
             }
         }
 
-        private void callLate(Frame frame, int need) {
-            // Only one of NEW is ever joined to a late need; all others are looked for at each use.
-            int joinedOne = stock.joinedTo(frame.object, need, 0);
-            if (joinedOne != NONE) {
-                frame.phase = WAITING;
-                pushCall(joinedOne, frame.scope, frame.target, frame.given, frame.level + 1);
-                return;
-            }
-            frame.phase = GETTING;
+        private void getLate(Frame frame) {
             if (frame.level >= LEVELS) {
                 failWith(0, TOO_DEEP);
-            } else {
-                pushRoot(book.firstCandidate(frame.component, need), frame.scope, frame.level + 1);
+                return;
             }
+            int candidate = book.firstCandidate(frame.component, frame.position);
+            pushRoot(candidate, frame.scope, frame.level + 1);
         }
 
         /** What this E waited for has come; answers whether it goes on at once. */
