@@ -2051,9 +2051,10 @@ public final class WiringHouse {
                 workWrap(frame, at, frame.arg).position = at + 1;
                 return;
             }
+            // The befores come in the next turn, which takes up an answer: here the arg itself.
             frame.phase = BEFORES;
             frame.position = 0;
-            nextBefore(frame);
+            answerWith(frame.arg);
         }
 
         private void nextBefore(Frame frame) {

@@ -197,6 +197,11 @@ final class CallTest {
         y.get(0, 10);
         Desk.due("the tenth's failing", y.call(0, 0, 0, 0), 69);
         did(y, row(4, 0, 0), row(4, 1, 1), row(4, 2, 1), row(4, 3, 1), row(4, 4, 1), row(4, 5, 1), row(4, 6, 1), row(4, 7, 1), row(4, 8, 1), row(4, 9, 1), row(3, 1, 13));
+        WiringHouse v = Desk.ready(chain.replace("need", "need all"));
+        v.get(0, 10);
+        Desk.due("ten of all", v.call(0, 1, 0, 0), 10);
+        Desk.due("eleven of all", v.call(0, 0, 0, 0), 0);
+        Desk.causes("eleven of all", v, 13);
         // A get()'s opened: its calls are the first.
         WiringHouse z = Desk.ready(chain + "type z; component e is z house { need t9; opened of 0.m(1); } component f is z house { need t10; opened of 0.m(1); }");
         Desk.due("ten", z.get(0, 11), 0);

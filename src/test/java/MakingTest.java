@@ -47,6 +47,9 @@ final class MakingTest {
         Desk.due("the 40th", x.day(), 39);
         Desk.due("the 41st", x.day(), -1);
         Desk.due("the 41st", x.meal(39), -1);
+        Desk.due("no 41st", x.close(40), -1);
+        Desk.due("outcome", x.outcome(), 3);
+        Desk.due("no 41st", x.spoiled(40, 0), -1);
         x.close(0);
         Desk.due("closed ones are there, too", x.day(), -1);
         Desk.due("the house's is open", x.count(5), 1);
@@ -409,5 +412,7 @@ final class MakingTest {
             Desk.due("closed(" + i + ", 1)", y.closed(i, 1), closed[i][1]);
         }
         Desk.due("it is spoiled", y.spoiled(0, 3), 1);
+        Desk.due("get once more", y.get(0, 3), -1);
+        Desk.causes("get once more", y, 15);
     }
 }

@@ -10,6 +10,8 @@ final class TextTest {
         statements();
         expressions();
         limits();
+        full();
+        again();
         taking();
         naming();
         settings();
@@ -161,7 +163,69 @@ final class TextTest {
         Desk.fine(inMethod("(((((((1)))))))"));
         Desk.fault(5, inMethod("((((((((^1))))))))"));
         Desk.fine(inMethod("of 0.m(of 0.m(pick(1,2,-(-(3)))))"));
+        for (String around : new String[] {"pick(#,1,1)", "pick(1,#,1)", "pick(1,1,#)", "of 0.m(#)", "(#)", "-#"}) {
+            Desk.fine(inMethod(around.replace("#", "((((((1))))))")));
+            Desk.fault(5, inMethod(around.replace("#", "(((((((^1)))))))")));
+            Desk.fine(inMethod("((((((" + around.replace("#", "1") + "))))))"));
+        }
+        for (String eighth : new String[] {"pick(^1,1,1)", "of 0.m(^1)", "(^1)", "-^1"}) {
+            Desk.fault(5, inMethod("(((((((" + eighth + ")))))))"));
+        }
+        Desk.fault(5, "type a; wrap a.m 1 around go(go(go(go(go(go(go(go(^1))))))));");
+        Desk.fine("type a; wrap a.m 1 around go(go(go(go(go(go(go(1)))))));");
         Desk.fault(5, inMethod("of 0.m(of 0.m(pick(1,2,-(-(-^(3))))))"));
+    }
+
+    private static void full() {
+        WiringHouse x = new WiringHouse();
+        Desk.due("4,000 tokens", Desk.feed(x, Desk.times(4000, ";")), 4000);
+        Desk.due("the first is wrong", x.book(), 1);
+        Desk.due("4,000 tokens", Desk.feed(x, Desk.times(4000, ";")), 4000);
+        Desk.due("no word", x.named(0), -1);
+        String head = "type a;component c is a new{method m ";
+        int terms = (4000 - head.length() - 2) / 2;
+        String text = head + Desk.times(terms - 1, "1+") + "1;}";
+        Desk.due("a full text", Desk.feed(x, text), text.length());
+        Desk.due("it is a book", x.book(), 0);
+        x.check();
+        Desk.due("its sum", x.call(0, x.get(0, 0), 0, 0), terms);
+        String minus = head + Desk.times(430, "-------1+") + "1;}";
+        Desk.due("a full text", Desk.feed(x, minus), minus.length());
+        Desk.due("it is a book", x.book(), 0);
+        x.check();
+        Desk.due("too many steps", x.call(0, x.get(0, 0), 0, 0), 0);
+        Desk.due("outcome", x.outcome(), 6);
+    }
+
+    /** A book is read into what an earlier one has left, and nothing of that may be seen. */
+    private static void again() {
+        WiringHouse x = new WiringHouse();
+        String rich = "setting s 1; setting r 2; type a; type b like a; component c is a, b meal called w rank 3 when s 2 { need a; need late b; opened fail 1; closed fail 2; method m fail 3; method n 1; }"
+            + "component d is a house {} wrap a.m 1 before 2; wrap a.m 1 around 3; wrap b.m 2 around 4;";
+        String plain = "type z; component y is z house { method m arg; }";
+        for (int i = 0; i < 4; i++) {
+            Desk.due("a rich book", Desk.book(x, rich), 0);
+            Desk.due("a rich book", Desk.book(x, rich), 0);
+            Desk.due("a fault within a component", Desk.book(x, "type q; component p is q house { need"), 1 + 16 * 37);
+            Desk.due("a plain book", Desk.book(x, plain), 0);
+            int[] counts = {1, 0, 1, 1, 0};
+            for (int what = 0; what < counts.length; what++) {
+                Desk.due("count(" + what + ")", x.count(what), counts[what]);
+            }
+            int[] told = {0, 0, 1, 0, -1};
+            for (int what = 0; what < told.length; what++) {
+                Desk.due("component(0, " + what + ")", Desk.component(x, 0, what), told[what]);
+            }
+            Desk.due("an old word", Desk.named(x, "w", 4), -1);
+            Desk.due("an old setting", Desk.named(x, "s", 1), -1);
+            Desk.due("check", x.check(), 0);
+            Desk.due("get", x.get(0, 0), 0);
+            Desk.due("call", x.call(0, 0, 0, 7), 7);
+            Desk.due("close", x.close(0), 1);
+            Desk.due("closed", x.closed(0, 1), 0);
+            Desk.due("a rich book with two arounds of a METHOD", Desk.book(x, rich), 0);
+            Desk.due("three are too many", Desk.book(x, rich + "wrap a.m 3 around 1;"), 5 + 16 * (rich.length() + 11));
+        }
     }
 
     private static void limits() {
