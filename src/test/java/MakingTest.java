@@ -13,6 +13,7 @@ final class MakingTest {
         undoing();
         lateNeeds();
         lateNew();
+        deep();
         tooMany();
         refusals();
         spent();
@@ -313,6 +314,25 @@ final class MakingTest {
         Desk.due("no more", x.did(did.length, 0), -1);
         Desk.due("from now on it is that one", x.call(0, 0, 0, 3), 30);
         Desk.due("the object", x.did(1, 1), 4);
+    }
+
+    /** As deep as it goes: eleven levels of 24 makings, each waiting within eight PARTS. */
+    private static void deep() {
+        StringBuilder text = new StringBuilder(Desk.times(24, "type t#;"));
+        for (int c = 0; c < 23; c++) {
+            text.append("component c" + c + " is t" + c + " new{need t" + (c + 1) + ";method m 1;}");
+        }
+        String within = "1<1+1*(1<1+1*(1<1+1*(1<1+1*(1<1+1*(1<1+1*(1<1+1*of 0.m(1<1+1*arg)))))))";
+        text.append("component c23 is t23 new{need late t0;opened " + within + ";}wrap t0.m 1 around " + within.replace("of 0.m", "go") + ";");
+        WiringHouse x = Desk.ready(text.toString());
+        Desk.due("get", x.get(0, 0), -1);
+        Desk.due("outcome", x.outcome(), 1);
+        Desk.due("objects", x.count(6), 264);
+        Desk.due("made", x.count(7), 0);
+        Desk.due("the last of the needs", x.cause(23 * 11 - 1), 20);
+        Desk.due("the kind", x.cause(23 * 11), 13);
+        Desk.due("behind it", x.cause(23 * 11 + 1), 0);
+        Desk.due("steps: the makings, and 32 PARTS in each last one", x.count(10), 264 + 11 * 32);
     }
 
     private static void tooMany() {

@@ -313,6 +313,15 @@ final class TextTest {
                 }
             }
         }
+        String[] alike = {"a", "aa", "aaa", "a0", "a1", "a9", "b", "b0", "az", "z9", "zz", "zzzzzzzzzzzz", "z99999999999", "a00000000000", "aaaaaaaaaaaa",
+            "aaaaaaaaaaab", "baaaaaaaaaaa", "azzzzzzzzzzz", "types", "typ", "newer", "goo", "isis", "o1f"};
+        WiringHouse y = Desk.house("type " + String.join(";type ", alike) + ";");
+        for (int k = 0; k < alike.length; k++) {
+            Desk.due("named " + alike[k], Desk.named(y, alike[k], 0), k);
+        }
+        for (String none : new String[] {"ab", "a00", "aaaaaaaaaaa", "zzzzzzzzzzzzz", "q", "a2"}) {
+            Desk.due("named " + none, Desk.named(y, none, 0), -1);
+        }
         Desk.due("blanks around it", Desk.named(x, " \n ab ", 0), 1);
         Desk.due("two words", Desk.named(x, "aa ab", 0), -1);
         Desk.due("a word and a sign", Desk.named(x, "aa;", 0), -1);
