@@ -23,6 +23,7 @@ public final class WiringHouse {
     private static final int LEVELS = 10;
     private static final int STEPS_OF_A_CALL = 3000;
     private static final int STEPS_IN_ALL = 60000;
+    private static final int ANY_NUMBER = 999999999;
 
     // What a SCOPE, a need and a PHASE of the text are told by; the PHASES are also what did() tells.
     private static final int HOUSE = 0;
@@ -800,7 +801,7 @@ public final class WiringHouse {
                 return false;
             }
             long name = word;
-            if (!takeNumber(0, Integer.MAX_VALUE) || !take(';')) {
+            if (!takeNumber(0, ANY_NUMBER) || !take(';')) {
                 return false;
             }
             int k = book.settings.add(name);
@@ -858,7 +859,7 @@ public final class WiringHouse {
                     return false;
                 }
                 told.whenSetting = found;
-                if (!takeNumber(0, Integer.MAX_VALUE)) {
+                if (!takeNumber(0, ANY_NUMBER)) {
                     return false;
                 }
                 told.whenValue = number;
