@@ -42,8 +42,13 @@ final class Part1Test {
         Desk.fine(text);
     }
 
+    /** The FAULT that stands at the mark; what is behind its token does not change it. */
     private static void wrong(int kind, String marked) {
         Desk.fault(kind, marked);
+        if (!marked.endsWith("^") && marked.length() < 3900) {
+            Desk.fault(kind, marked + " #");
+            Desk.fault(kind, marked + " ; } type");
+        }
     }
 
     // ---- the TAPE
@@ -56,6 +61,15 @@ final class Part1Test {
         Desk.due("one more", Desk.feed(x, ";"), 4000);
         Desk.due("count(12)", x.count(12), 4000);
         Desk.due("the 4,000th stands there, no other does", x.book(), 1 + 16 * 3999);
+        x = new WiringHouse();
+        Desk.due("4,000 TOKENS", Desk.feed(x, ";".repeat(4001)), 4000);
+        Desk.due("no WORD", x.named(0), -1);
+        String head = "type a;component c is a new{method m ";
+        int terms = (4000 - head.length() - 2) / 2;
+        Desk.due("a full TAPE", Desk.book(x, head + "1+".repeat(terms - 1) + "1;}"), 0);
+        x.check();
+        Desk.due("its sum", x.call(0, x.get(0, 0), 0, 0), terms);
+        Desk.due("one that was cut", Desk.book(new WiringHouse(), head + "1+".repeat(terms + 1) + "1;}"), 1 + 16 * 4000);
         Desk.says("The TAPE has at most 4,000 signs, 10 and 32 .. 126");
         for (int sign = 0; sign < 256; sign++) {
             int comes = sign == 10 || sign >= 32 && sign <= 126 ? 1 : 0;
@@ -128,9 +142,14 @@ final class Part1Test {
 
     private static void words() {
         Desk.says("WORDS (a letter a .. z, then letters and digits, 12 at most)");
-        for (String name : new String[] {"a", "z", "m", "a0", "z9", "a1b2c3", "abcdefghijkl", "zzzzzzzzzzzz", "a00000000000", "z99999999999"}) {
-            WiringHouse x = Desk.house("type " + name + ";");
-            Desk.due(name, Desk.named(x, name, 0), 0);
+        String[] names = {"a", "aa", "aaa", "z", "zz", "za", "az", "a0", "a1", "a9", "b0", "z9", "a1b2c3", "abcdefghijkl", "abcdefghijk", "bcdefghijkl", "zzzzzzzzzzzz", "zzzzzzzzzzzy", "yzzzzzzzzzzz",
+            "a00000000000", "a0000000000", "z99999999999", "aaaaaaaaaaaa", "aaaaaaaaaaa"};
+        WiringHouse all = Desk.house("type " + String.join(";type ", names) + ";");
+        for (int k = 0; k < names.length; k++) {
+            Desk.due(names[k], Desk.named(all, names[k], 0), k);
+        }
+        for (String none : new String[] {"b", "ab", "ba", "a00", "a10", "z8", "aaaa", "aaaaaaaaaa", "zzzzzzzzzzz", "a01", "y9"}) {
+            Desk.due(none, Desk.named(all, none, 0), -1);
         }
         wrong(1, "type ^abcdefghijklm;");
         wrong(1, "type ^a000000000000;");
@@ -621,6 +640,13 @@ final class Part1Test {
         wrong(2, method("setting ^x + fail 0"));
         wrong(1, method("1 + ^go(fail 0)"));
         wrong(4, method("of ^1.arg(fail 0)"));
+        wrong(1, "type a ^type b type c;");
+        wrong(1, "setting s ^type b type c;");
+        wrong(1, "setting s 1 ^type b type c;");
+        wrong(1, "setting s 1; type a; component c is a house when s ^{} type b type c;");
+        wrong(1, "type a; component c is a house { need a ^need a need a; }");
+        wrong(1, "type a; component c is a house { method m 1 < ^; method n 1 < ; }");
+        wrong(1, "type a; component c is a house { method m 1 * ^; method n 1 * ; }");
         // Nothing is wrong ahead of the end.
         wrong(1, "type a; component c is a house { method m 1 + ^");
         wrong(1, "type a; component c is a house { method m pick(1, 2^");
@@ -735,6 +761,75 @@ final class Part1Test {
         Desk.due("count(11)", y.count(11), 0);
         Desk.due("no fault is told", y.fault(0, 0), -1);
         Desk.due("no components", y.count(2), 0);
+        readAgain();
+        spoiltAgain();
+        richAndPlain();
+    }
+
+    /** The same book once more: all is as if it were the first. */
+    private static void readAgain() {
+        WiringHouse x = lively();
+        Desk.getFails(x, 5, 2, 15);
+        Desk.due("the same book", Desk.book(x, LIVELY), 0);
+        x.check();
+        for (int s = 1; s <= 5; s++) {
+            Desk.due("no scope of old is open", x.spoiled(s, 0), -1);
+        }
+        for (int s = 1; s <= 5; s++) {
+            x.day();
+        }
+        for (int s = 0; s <= 5; s++) {
+            for (int c = 0; c < 3; c++) {
+                Desk.due("spoiled(" + s + ", " + c + ")", x.spoiled(s, c), 0);
+            }
+        }
+        Desk.getFails(x, 5, 2, 3);
+        Desk.due("k", x.get(0, 0), 1);
+    }
+
+    private static void spoiltAgain() {
+        String text = "type a; type b; type e; component k is a house called v { need b; method m 1; } component l is b house { need late a called v; opened of 0.m(1); } "
+            + "component n is e house { opened fail 5; } component p is a house { need e; }";
+        WiringHouse x = Desk.ready("type a; component c is a new {}");
+        for (int i = 0; i < 4; i++) {
+            x.get(0, 0);
+        }
+        for (int round = 0; round < 2; round++) {
+            Desk.due("book", Desk.book(x, text), 0);
+            Desk.due("check", x.check(), 0);
+            Desk.due("no failure of old is told", x.cause(0), 0);
+            Desk.getFails(x, 0, 0, 20, 12);
+            Desk.getFails(x, 0, 3, 20, 5);
+        }
+    }
+
+    private static void richAndPlain() {
+        String rich = "setting s 1; setting r 2; type a; type b like a; component c is a, b meal called w rank 3 when s 2 { need a; need late b; opened fail 1; closed fail 2; method m fail 3; method n 1; } "
+            + "component d is a house {} wrap a.m 1 before 2; wrap a.m 1 around 3; wrap b.m 2 around 4;";
+        String plain = "type z; component y is z house { method m arg; }";
+        WiringHouse x = new WiringHouse();
+        for (int i = 0; i < 4; i++) {
+            Desk.due("rich", Desk.book(x, rich), 0);
+            Desk.due("rich", Desk.book(x, rich), 0);
+            Desk.counts(x, 2, 2, 2, 2, 3);
+            Desk.due("one that ends within a component", Desk.book(x, rich + "component e is a house {"), 1 + 16 * (rich.length() + 24));
+            Desk.due("plain", Desk.book(x, plain), 0);
+            Desk.counts(x, 1, 0, 1, 1, 0);
+            int[] told = {0, 0, 1, 0, -1};
+            for (int what = 0; what < told.length; what++) {
+                Desk.due("component(0, " + what + ")", x.component(0, what), told[what]);
+            }
+            Desk.due("a WORD of old", Desk.named(x, "w", 4), -1);
+            Desk.due("check", x.check(), 0);
+            Desk.due("get", x.get(0, 0), 0);
+            Desk.due("call", x.call(0, 0, 0, 7), 7);
+            Desk.due("close", x.close(0), 1);
+            Desk.closed(x, row(0, 0));
+        }
+    }
+
+    private static int[] row(int... numbers) {
+        return numbers;
     }
 
     private static void kept() {

@@ -491,6 +491,8 @@ final class Part3Test {
         Desk.due("STEPS", x.count(10), 3000);
         Desk.due("w is there", x.count(7), 1);
         Desk.due("f is spoiled", x.spoiled(0, 4), 1);
+        // The next failure is one, and nothing more.
+        Desk.getFails(x, 0, 4, 15);
         // Within a late need: all ends, and the objects that are not made go; those that are made stay.
         WiringHouse y = Desk.ready(text + "type g; type h; component u is g house { need h; need late d; opened of 1.m(1); } component v is h house {} wrap g.m 1 failing 1;");
         y.get(0, 0);

@@ -388,6 +388,11 @@ final class Part4Test {
         Desk.due("outcome", x.outcome(), 0);
         Desk.due("STEPS: CALL, of, arg", x.count(10), 3);
         Desk.callFails(x, 0, 0, "s", 7);
+        // Once more in one E, and within one another.
+        WiringHouse y = Desk.ready("type a; type b; component k0 is a house { method m arg; } component k1 is a house { method m arg * 10; } component l is b house { need all a; need all a; "
+            + "method p of 0.m(1) + of 1.m(2) * 100 + of 0.m(of 0.m(arg)); }");
+        y.get(0, 2);
+        Desk.due("three times", Desk.call(y, 0, 0, "p", 1), 11 + 2200 + 121);
         // The second has no n: it ends there, the third is not called.
         Desk.callFails(x, 0, 0, "r", 11);
         Desk.did(x, row(4, 0, 1), row(4, 1, 1));

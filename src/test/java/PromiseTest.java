@@ -277,7 +277,7 @@ final class PromiseTest {
 
     private static void candidate() {
         Desk.says("Promise 10: The i-th CANDIDATE of a component's need, by numbers; NONE: none such");
-        WiringHouse x = Desk.house("type a; type b; component k is a house rank 1 {} component l is a house {} component m is a house rank 1 {} component n is b house { need all a; need a; need b; need a called w; }");
+        WiringHouse x = Desk.house("type a; type b; component k is a house called v rank 1 {} component l is a house {} component m is a house rank 1 {} component n is b house { need all a; need a; need b; need a called w; }");
         int[][] due = {{0, 1, 2}, {0, 2}, {3}, {}};
         for (int need = 0; need < 4; need++) {
             for (int i = 0; i < 5; i++) {
@@ -294,6 +294,9 @@ final class PromiseTest {
             Desk.due("candidate(" + c + ", 0, 0)", x.candidate(c, 0, 0), -1);
         }
         Desk.due("one without needs", x.candidate(0, 0, 0), -1);
+        WiringHouse y = Desk.house("type a; component k is a house {" + "need a;".repeat(8) + "}");
+        Desk.due("the eighth", y.candidate(0, 7, 0), 0);
+        Desk.due("no ninth", y.candidate(0, 8, 0), -1);
     }
 
     private static void day() {
@@ -690,6 +693,20 @@ final class PromiseTest {
         for (int o : new int[] {-1, 0, 5, 299, 300, MAX, MIN}) {
             Desk.due("joined(" + o + ", 0, 0)", x.joined(o, 0, 0), -1);
         }
+        // Many: 20 of them, 8 times, for each of 120 objects.
+        WiringHouse y = Desk.ready("type a; type b;" + Desk.times(20, "component c# is a house { method m 1; }") + "component k is b new {" + "need all a;".repeat(8) + "method n of 7.m(1); }");
+        for (int g = 0; g < 120; g++) {
+            Desk.due("get", y.get(0, 20), g == 0 ? 0 : 20 + g);
+        }
+        for (int k : new int[] {0, 21, 60, 139}) {
+            for (int i = 0; i < 20; i++) {
+                Desk.due("joined(" + k + ", 3, " + i + ")", y.joined(k, 3, i), 1 + i);
+            }
+            Desk.due("no more", y.joined(k, 3, 20), -1);
+            Desk.due("the last need's first", y.joined(k, 7, 0), 1);
+            Desk.due("the last need's last", y.joined(k, 7, 19), 20);
+        }
+        Desk.due("the sum of 20", Desk.call(y, 0, 139, "n", 0), 20);
     }
 
     private static void closed() {
@@ -782,6 +799,13 @@ final class PromiseTest {
         x.close(9);
         x.day();
         Desk.did(x, rows);
+        WiringHouse z = Desk.ready("type a; type b; component k is a house { method m arg; } component l is b new { need a; opened of 0.m(8); method m of 0.m(arg); closed of 0.m(9); }");
+        z.get(0, 1);
+        z.call(0, 0, 0, 5);
+        z.get(0, 1);
+        Desk.did(z, row(4, 0, 5), row(4, 1, 5));
+        z.close(0);
+        Desk.did(z, row(4, 0, 5), row(4, 1, 5));
         // Within it all: what is made for a late need is told, too.
         Desk.due("n", Desk.call(x, 0, l, "n", 5), 2);
         Desk.did(x, row(4, 0, 5), row(0, 2, 9), row(4, 1, 11), row(2, 3, 11), row(1, 0, 1), row(4, 2, 2));

@@ -182,6 +182,7 @@ final class TextTest {
         Desk.due("the first is wrong", x.book(), 1);
         Desk.due("4,000 tokens", Desk.feed(x, Desk.times(4000, ";")), 4000);
         Desk.due("no word", x.named(0), -1);
+        x = new WiringHouse();
         String head = "type a;component c is a new{method m ";
         int terms = (4000 - head.length() - 2) / 2;
         String text = head + Desk.times(terms - 1, "1+") + "1;}";
