@@ -64,12 +64,13 @@ final class Part1Test {
         x = new WiringHouse();
         Desk.due("4,000 TOKENS", Desk.feed(x, ";".repeat(4001)), 4000);
         Desk.due("no WORD", x.named(0), -1);
+        x = new WiringHouse();
         String head = "type a;component c is a new{method m ";
         int terms = (4000 - head.length() - 2) / 2;
+        Desk.due("one that is cut", Desk.book(x, head + "1+".repeat(terms + 1) + "1;}"), 1 + 16 * 4000);
         Desk.due("a full TAPE", Desk.book(x, head + "1+".repeat(terms - 1) + "1;}"), 0);
         x.check();
         Desk.due("its sum", x.call(0, x.get(0, 0), 0, 0), terms);
-        Desk.due("one that was cut", Desk.book(new WiringHouse(), head + "1+".repeat(terms + 1) + "1;}"), 1 + 16 * 4000);
         Desk.says("The TAPE has at most 4,000 signs, 10 and 32 .. 126");
         for (int sign = 0; sign < 256; sign++) {
             int comes = sign == 10 || sign >= 32 && sign <= 126 ? 1 : 0;

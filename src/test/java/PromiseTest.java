@@ -705,6 +705,7 @@ final class PromiseTest {
             Desk.due("no more", y.joined(k, 3, 20), -1);
             Desk.due("the last need's first", y.joined(k, 7, 0), 1);
             Desk.due("the last need's last", y.joined(k, 7, 19), 20);
+            Desk.due("no ninth need", y.joined(k, 8, 0), -1);
         }
         Desk.due("the sum of 20", Desk.call(y, 0, 139, "n", 0), 20);
     }
