@@ -187,7 +187,7 @@ final class Part1Test {
     }
 
     private static void signs() {
-        Desk.says("signs { } ( ) , ; = < + - * . ; all else is none");
+        Desk.says("signs { } ( ) , ; = < + - * . ; all else .. is none");
         fine("type t; type u; component c is t, u house { need t; method m (of 0.m(1)+2-3*4<5)=6; }");
         for (char sign = 33; sign < 127; sign++) {
             boolean isLetterOrDigit = sign >= 'a' && sign <= 'z' || sign >= '0' && sign <= '9';
@@ -207,7 +207,7 @@ final class Part1Test {
     // ---- the BOOK
 
     private static void statements() {
-        Desk.says("BOOK: any number of type, setting, component, wrap");
+        Desk.says("BOOK: any number of");
         fine("");
         fine(" ");
         fine("\n");
@@ -524,7 +524,7 @@ final class Part1Test {
     }
 
     private static void mostNumbered() {
-        Desk.says("20 METHODS .. (METHODS, WORDS at theirs)");
+        Desk.says("20 METHODS .. METHODS, WORDS at theirs");
         String methods = "type t; component c is t new { need t; " + Desk.times(20, "method m# 1;");
         Desk.due("20 METHODS", Desk.house(methods + "}").count(3), 20);
         wrong(5, methods + "method ^m20 1; }");
@@ -532,7 +532,7 @@ final class Part1Test {
         wrong(5, methods + "} wrap t.^m20 1 before 1;");
         fine(methods + "opened of 0.m0(of 0.m19(1)); } component d is t new { method m19 1; } wrap t.m0 1 before 1;");
         wrong(5, "type t; component c is t new { need t; method m0 " + Desk.times(19, "of 0.n#(1)+") + "of 0.^x(1); }");
-        Desk.says("20 WORDS behind called .. (METHODS, WORDS at theirs)");
+        Desk.says("20 WORDS behind called .. METHODS, WORDS at theirs");
         String words = "type t;" + Desk.times(19, "component c# is t new called w# {}") + "component c is t new { need t called w19;";
         fine(words + "}");
         wrong(5, words + "need t called ^w20; }");
@@ -549,7 +549,7 @@ final class Part1Test {
         Desk.due("12 wraps", Desk.house(wraps).count(4), 12);
         wrong(5, wraps + " ^wrap t.m 1 before 1;");
         wrong(5, wraps + " ^wrap");
-        Desk.says("2 arounds of one METHOD .. (an around at that word)");
+        Desk.says("2 arounds of one METHOD .. an around at that word");
         String arounds = "type t; type u; wrap t.m 1 around 1; wrap u.m 1 around 1;";
         fine(arounds);
         wrong(5, arounds + "wrap t.m 1 ^around 1;");
@@ -559,7 +559,7 @@ final class Part1Test {
     }
 
     private static void mostListed() {
-        Desk.says("6 TYPES of a list .. (types of a list at theirs)");
+        Desk.says("6 TYPES of a list .. types of a list, METHODS, WORDS at theirs");
         String types = Desk.times(8, "type t#;");
         fine(types + "type u like t0, t1, t2, t3, t4, t5;");
         wrong(5, types + "type u like t0, t1, t2, t3, t4, t5, ^t6;");
@@ -578,7 +578,7 @@ final class Part1Test {
     }
 
     private static void mostParts() {
-        Desk.says("8 PARTS within one another .. (a PART within 8 others)");
+        Desk.says("8 PARTS within one another .. a PART within 8 others");
         fine(method("(((((((1)))))))"));
         wrong(5, method("((((((((^1))))))))"));
         fine(method("-------1"));
@@ -654,7 +654,7 @@ final class Part1Test {
     }
 
     private static void leastWrong() {
-        Desk.says("FAULTS: of the first token from the left that is wrong the least");
+        Desk.says("FAULTS .. of the first token from the left that is wrong the least");
         String types = Desk.times(24, "type t#;");
         String list = "t0, t1, t2, t3, t4, t5";
         wrong(3, types + "component c is " + list + ", ^t0 house {}");

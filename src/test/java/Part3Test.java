@@ -405,7 +405,7 @@ final class Part3Test {
     // ---- what was made for what failed
 
     private static void undone() {
-        Desk.says("If get() .. ends in a failure, the objects that were made for it are closed, the one whose making ended latest first");
+        Desk.says("If get() .. ends in a failure, the objects that were made for it .. are closed, the one whose making ended latest first");
         String text = "type a; type b; type c; type d; type e; component k is a house { closed 1; } component l is b house { need a; closed 2; } component m is c house { closed fail 5; } component n is d new {} "
             + "component f is e house { need b; need c; need d; need d; opened fail 3; }";
         WiringHouse x = Desk.ready(text);
@@ -457,7 +457,7 @@ final class Part3Test {
     }
 
     private static void lateUndone() {
-        Desk.says("If .. a call's late need ends in a failure, the objects that were made for it are closed");
+        Desk.says("If .. a call's late need ends in a failure, the objects that were made for it .. are closed");
         String text = "type a; type b; type c; type d; component k is a house { need late b; method m of 0.m(1); } component l is b house { need c; need d; opened fail 4; } component m is c house { closed fail 1; } component n is d new { } ";
         WiringHouse x = Desk.ready(text);
         x.get(0, 0);

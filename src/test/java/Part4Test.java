@@ -424,7 +424,7 @@ final class Part4Test {
     }
 
     private static void lateNewOnes() {
-        Desk.says("(NEW: once for this object and need)");
+        Desk.says("NEW: once for this object and need");
         WiringHouse x = Desk.ready("type a; type b; component n is a new { method m arg; } component k is b new { need late a; need late a; method p of 0.m(arg); method q of 1.m(arg); }");
         x.day();
         Desk.due("k", x.get(0, 1), 0);
