@@ -152,6 +152,7 @@ final class Part1Test {
         for (String none : new String[] {"b", "ab", "ba", "a00", "a10", "z8", "aaaa", "aaaaaaaaaa", "zzzzzzzzzzz", "a01", "y9"}) {
             Desk.due(none, Desk.named(all, none, 0), -1);
         }
+        shortWords();
         wrong(1, "type ^abcdefghijklm;");
         wrong(1, "type ^a000000000000;");
         wrong(1, "type ^" + "a".repeat(100) + ";");
@@ -164,6 +165,31 @@ final class Part1Test {
         wrong(1, "type a; ^typecomponents b;");
         Desk.due("a longer WORD for named", Desk.named(Desk.house("type abcdefghijkl;"), "abcdefghijklm", 0), -1);
         Desk.due("12 of it for named", Desk.named(Desk.house("type abcdefghijkl;"), "abcdefghijkl", 0), 0);
+    }
+
+    /** All WORDS of one and two signs, by 24 types a book: each is itself alone, and none of the others. */
+    private static void shortWords() {
+        String signs = "abcdefghijklmnopqrstuvwxyz0123456789";
+        java.util.List<String> all = new java.util.ArrayList<>();
+        for (int a = 0; a < 26; a++) {
+            all.add(signs.substring(a, a + 1));
+            for (int b = 0; b < 36; b++) {
+                String two = signs.substring(a, a + 1) + signs.charAt(b);
+                if (!two.equals("is") && !two.equals("of") && !two.equals("go")) {
+                    all.add(two);
+                }
+            }
+        }
+        for (int from = 0; from < all.size(); from += 24) {
+            java.util.List<String> told = all.subList(from, Math.min(from + 24, all.size()));
+            String text = "type " + String.join(";type ", told) + ";";
+            for (int asked = 0; asked < all.size(); asked += 200) {
+                WiringHouse x = Desk.house(text);
+                for (String word : all.subList(asked, Math.min(asked + 200, all.size()))) {
+                    Desk.due(word + " in " + text, Desk.named(x, word, 0), told.indexOf(word));
+                }
+            }
+        }
     }
 
     private static void numbers() {

@@ -23,6 +23,7 @@ final class PromiseTest {
         call();
         close();
         closeOrder();
+        closeMost();
         closeMeanwhile();
         closeSpent();
         outcome();
@@ -502,6 +503,26 @@ final class PromiseTest {
         for (int s = 1; s <= 5; s++) {
             Desk.closeEnds(y, s, -1, 3);
         }
+    }
+
+    /** All that can be closed at once: 300 objects in 40 scopes. */
+    private static void closeMost() {
+        Desk.says("how many were closed; outcome 0");
+        WiringHouse x = Desk.ready("type a; type b; component n is a new {} component k is b new {" + "need a;".repeat(8) + "}");
+        for (int s = 1; s < 40; s++) {
+            Desk.due("a scope", s % 3 == 1 ? x.day() : x.meal(s - (s - 1) % 3), s);
+        }
+        for (int s = 0; s < 33; s++) {
+            Desk.due("nine in scope " + s, x.get(s, 1), 9 * s);
+        }
+        for (int s = 37; s < 40; s++) {
+            Desk.due("one in scope " + s, x.get(s, 0), 260 + s);
+        }
+        Desk.closeEnds(x, 0, 300, 0);
+        Desk.due("the first, of the latest day's latest meal", x.closed(0, 0), 299);
+        Desk.due("the 300th, of the house", x.closed(299, 0), 1);
+        Desk.due("none is left", x.count(7), 0);
+        Desk.due("the house's is open", x.count(5), 1);
     }
 
     private static void closeMeanwhile() {
